@@ -184,7 +184,7 @@ public final class PromisesTest {
         due("3: MIN times -1 wraps", MIN, x.ask(RATE, BASE, MIN, -1));
         due("3: MIN by -1 wraps", MIN, x.ask(RAIL, TOLL, MIN, -1));
         due("3: 2 times up wraps", 2, x.ask(SWIFT, BASE, MAX, MAX));
-        due("3: 3 times up wraps", 3 * (MAX / 10 + 5), x.ask(ACID, TOLL, 0, MAX));
+        due("3: 3 times up of the longest way", 3 * (MAX / 10 + 5), x.ask(ACID, TOLL, 0, MAX));
         due("3: up and w wraps", MIN + MIN, x.ask(SEALED, TOLL, MIN, -1));
         due("3: TOTAL wraps", MAX * 999991 + 99999 + 1000 + 2147483, x.ask(RATE, TOTAL, MAX, 999991));
         FreightRates y = new FreightRates();
